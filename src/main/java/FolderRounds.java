@@ -230,7 +230,7 @@ public final class FolderRounds {
         }
         station.learn(cartridge.table);
         station.dropMarksThatAllHad();
-        cartridge.becomeEmpty();
+        // The row is empty by now, and every vector of the old table is written over.
         cartridge.table.becomeLike(station.knowledge);
         station.gatherLacked(destinations);
         return cartridge.loadFrom(station.lacked, n - gone);

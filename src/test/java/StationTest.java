@@ -284,6 +284,10 @@ public final class StationTest {
         x.edit(2, 2, 3, 3);
         x.edit(3, 3, 3, 3);
         CHECKS.due("same, other documents", x.same(2, 3), false);
+        x.visit(1, 2, 8);
+        x.erase(3, 3);
+        x.visit(1, 3, 0);
+        CHECKS.due("same, a single version", x.same(2, 3), true);
         CHECKS.noSuchElement("same(0, 4)", () -> x.same(0, 4));
         CHECKS.noSuchElement("same(4, 0)", () -> x.same(4, 0));
         CHECKS.noSuchElement("same(0, -1)", () -> x.same(0, -1));

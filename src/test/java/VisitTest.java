@@ -9,6 +9,7 @@ public final class VisitTest {
         promise7UnloadingReplaces();
         promise7KnowledgeTravels();
         promise7MarksAreDropped();
+        promise7MarksWaitForEach();
         promise7DroppedMarksStayDropped();
         promise7LoadsWhatIsLacked();
         promise8CutWhileUnloading();
@@ -166,6 +167,20 @@ public final class VisitTest {
         CHECKS.due("marks at 1", x.marks(1), 1);
         CHECKS.due("cut while nothing moves", x.cut(0, 1, 15, 0), 0);
         CHECKS.due("marks at 1, cut, but all was done", x.marks(1), 0);
+    }
+
+    /** Whichever station comes last: no mark is dropped before it is known to have had it. */
+    private static void promise7MarksWaitForEach() {
+        for (int last = 0; last < 4; last++) {
+            FolderRounds x = new FolderRounds();
+            x.erase((last + 1) % 4, 2);
+            for (int i = 1; i < 4; i++) {
+                x.visit(0, (last + i) % 4, 15);
+                CHECKS.due("marks before " + last + " had it", x.marks((last + i) % 4), 1);
+            }
+            x.visit(0, last, 15);
+            CHECKS.due("marks at " + last, x.marks(last), 0);
+        }
     }
 
     private static void promise7DroppedMarksStayDropped() {
