@@ -3,11 +3,21 @@ import java.util.NoSuchElementException;
 /** Counts and prints the answers that are not the ones due. */
 final class Checks {
     private int wrong = 0;
+    private String sentence = "";
+
+    /** The document's words that the answers from here on hang on. */
+    void sentence(String place, String words) {
+        sentence = place + ", \"" + words + "\": ";
+    }
+
+    private void wrong(String what) {
+        wrong++;
+        System.out.println(sentence + what);
+    }
 
     void due(String call, long got, long want) {
         if (got != want) {
-            wrong++;
-            System.out.println(call + " answered " + got + ", due is " + want);
+            wrong(call + " answered " + got + ", due is " + want);
         }
     }
 
@@ -31,7 +41,7 @@ final class Checks {
         throwsDue(call, UnsupportedOperationException.class, run);
     }
 
-    private void throwsDue(String call, Class<? extends RuntimeException> want, Runnable run) {
+    void throwsDue(String call, Class<? extends RuntimeException> want, Runnable run) {
         String got = "nothing";
         try {
             run.run();
@@ -39,12 +49,11 @@ final class Checks {
             got = e.getClass().getName();
         }
         if (!got.equals(want.getName())) {
-            wrong++;
-            System.out.println(call + " throws " + got + ", due is " + want.getName());
+            wrong(call + " throws " + got + ", due is " + want.getName());
         }
     }
 
-    /** The k-th version with bytes at a station has this length, first byte and vector. */
+    /** The k-th version with bytes at a station has this length and vector. */
     void sibling(FolderRounds x, int station, int document, int k, int length, int... counters) {
         String name = "station " + station + " document " + document + " version " + k;
         due(name + " length", x.byteOf(station, document, k, -1), length);
@@ -68,10 +77,21 @@ final class Checks {
 
     /** A cartridge has exactly so many versions. */
     void rowLength(FolderRounds x, int cartridge, int length) {
-        if (length > 0) {
-            x.item(cartridge, length - 1, 0);
+        due("the length of the row of " + cartridge, rowLength(x, cartridge), length);
+    }
+
+    /** No more than twelve versions have room, as each takes 8 of 100. */
+    static int rowLength(FolderRounds x, int cartridge) {
+        int length = 0;
+        try {
+            while (length <= 12) {
+                x.item(cartridge, length, 0);
+                length++;
+            }
+        } catch (NoSuchElementException e) {
+            return length;
         }
-        noSuchElement("item(" + cartridge + ", " + length + ", 0)", () -> x.item(cartridge, length, 0));
+        return length;
     }
 
     void finish() {
